@@ -532,7 +532,7 @@ public final class DatamarketDesk {
     }
 
     private static boolean has(int fields, int field) {
-        return (fields >> field & 1) != 0;
+        return ((fields >> field) & 1) != 0;
     }
 
     private static int fieldAt(int set, int field) {

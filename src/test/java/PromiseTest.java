@@ -14,6 +14,8 @@ public final class PromiseTest {
         report();
         harm();
         harmKeepsWhatItWasMadeOf();
+        fullDesk();
+        readsOfTwoSets();
         ofSet();
         isMadeOf();
         contract();
@@ -292,6 +294,62 @@ public final class PromiseTest {
         y.source(1, 0, 0, 0, 100);
         y.report(0, 0, 0, 100);
         checks.due("8 a source told later", 0, y.harm(1, 0, 0));
+        y.source(1, 0, 0, 0, 99);
+        y.version(1, 1);
+        checks.due("8 share 99", 99, y.harm(1, 1, 0));
+    }
+
+    /** As many SETS, FIELDS, VERSIONS and SOURCES as there may be. */
+    private static void fullDesk() {
+        DatamarketDesk x = new DatamarketDesk();
+        for (int set = 0; set < 8; set++) {
+            x.set(6);
+        }
+        for (int made = 0; made < 20; made++) {
+            x.source(7, made % 6, made / 6, made % 6, 90);
+        }
+        for (int round = 0; round < 6; round++) {
+            for (int set = 0; set < 8; set++) {
+                checks.due("5 version", round, x.version(set, 1));
+            }
+        }
+        for (int round = 0; round < 6; round++) {
+            checks.due("10 the last source", true, x.isMadeOf(7, round, 1, 3, round, 1));
+            checks.due("10 the last source", false, x.isMadeOf(7, round, 1, 3, (round + 1) % 6, 1));
+            x.report(3, round, 1, 10 * (round + 1));
+            checks.due("8 the last source", 9 * (round + 1), x.harm(7, round, 1));
+        }
+        for (int reader = 0; reader < 6; reader++) {
+            for (int set = 0; set < 8; set++) {
+                int field = 1 << (reader + set) % 6;
+                checks.due("15 each reader of each set", field, x.preview(reader, set, field));
+            }
+        }
+        for (int reader = 0; reader < 6; reader++) {
+            for (int set = 0; set < 8; set++) {
+                int field = 1 << (reader + set) % 6;
+                checks.due("15 each reader of each set", field, x.preview(reader, set, field));
+            }
+        }
+    }
+
+    private static void readsOfTwoSets() {
+        DatamarketDesk x = openDesk(1, 1000);
+        x.set(1);
+        x.version(1, 1000);
+        x.contract(0, 1, 1, 1, 0, 359);
+        x.contract(1, 1, 1, 1, 0, 359);
+        x.read(0, 1, 1, 500, 0);
+        x.read(0, 0, 1, 200, 0);
+        x.read(1, 1, 1, 100, 0);
+        x.report(1, 0, 0, 20);
+        dueOfReader("17 two sets", x, 0, 700, 2, 70, 10, 0, 60, 2);
+        checks.due("21 two readers, two sets", 68.0 / 3, x.meanWorth());
+        checks.due("18 two sets", 60, x.bill(0));
+        checks.due("18 two sets", 0, x.bill(0));
+        checks.due("16 billed", 40, x.ofRead(0, 10));
+        checks.due("16 billed", 20, x.ofRead(1, 10));
+        checks.due("16 not billed", 0, x.ofRead(2, 10));
     }
 
     private static void ofSet() {
@@ -747,6 +805,7 @@ public final class PromiseTest {
         for (int bad : new int[] {MIN, -1, 0, 10000, MAX}) {
             checks.badArgument("22 rows " + bad, x, () -> x.quote(0, 0, 1, bad));
         }
+        checks.due("22 one row", 0, x.quote(0, 0, 1, 1));
         checks.due("22 without a version", 9899 + 999, x.quote(0, 0, 3, 9999));
         checks.due("22 each field cut", 98 + 9, x.quote(0, 0, 3, 99));
         x.version(0, 9999);
@@ -813,6 +872,8 @@ public final class PromiseTest {
         x.set(1);
         x.version(1, 1);
         checks.due("24 a set of one", 0, x.previews(0, 1));
+        checks.due("24 a covered set of one", 1, openDesk(1, 1).previews(0, 0));
+        checks.due("24 a covered set of two", 2, openDesk(2, 1).previews(0, 0));
     }
 
     private static void neededBy() {
