@@ -1,6 +1,5 @@
 import java.util.Arrays;
 import java.util.Random;
-import java.util.function.LongSupplier;
 
 /** Long runs of calls, the same each time, on the class and on the model: all answers must be the same. */
 public final class ModelTest {
@@ -8,9 +7,6 @@ public final class ModelTest {
     private static final int CALLS = 512;
     /** So often each call must have been answered, and refused, or the runs tell little. */
     private static final int FEWEST = 200;
-    private static final int KINDS = 25;
-    private static final int MEAN_WORTH = 20;
-    private static final int DIGEST = 24;
     private static final int[] ODD = {Integer.MIN_VALUE, -1000, -2, -1, 0, 1, 6, 7, 16, 40, 64, 360, 1001, 10000,
         Integer.MAX_VALUE - 1, Integer.MAX_VALUE};
 
@@ -27,15 +23,15 @@ public final class ModelTest {
 
     public static void main(String[] args) {
         int wrong = 0;
-        int[] answered = new int[KINDS];
-        int[] refused = new int[KINDS];
+        int[] answered = new int[Calls.KINDS];
+        int[] refused = new int[Calls.KINDS];
         for (int run = 0; run < RUNS; run++) {
             if (!new ModelTest(run).goesAsTheModel(run, answered, refused)) {
                 wrong++;
             }
         }
-        for (int kind = 0; kind < KINDS; kind++) {
-            boolean neverRefused = kind == MEAN_WORTH || kind == DIGEST;
+        for (int kind = 0; kind < Calls.KINDS; kind++) {
+            boolean neverRefused = kind == Calls.MEAN_WORTH || kind == Calls.DIGEST;
             if (answered[kind] < FEWEST || !neverRefused && refused[kind] < FEWEST) {
                 wrong++;
                 System.out.println("calls of kind " + kind + " hardly come: " + answered[kind] + ", " + refused[kind]);
@@ -49,40 +45,37 @@ public final class ModelTest {
 
     private boolean goesAsTheModel(int run, int[] answered, int[] refused) {
         for (int made = 0; made < CALLS; made++) {
-            int kind = made % digestEvery == digestEvery - 1 ? DIGEST : kindOfCall(made);
+            int kind = made % digestEvery == digestEvery - 1 ? Calls.DIGEST : kindOfCall(made);
             int[] with = argumentsFor(kind);
-            String due = outcome(() -> onModel(kind, with));
-            String got = outcome(() -> onDesk(kind, with));
+            String due = Calls.outcome(() -> Calls.onModel(model, kind, with));
+            String got = Calls.outcome(() -> Calls.onDesk(desk, kind, with));
             if (!due.equals(got)) {
-                System.out.println("run " + run + ", call " + made + " of kind " + kind + " with " + Arrays.toString(with)
+                System.out.println("run " + run + ", call " + made + " of kind " + kind
+                        + " with " + Arrays.toString(with)
                         + ": " + got + ", due is " + due);
                 return false;
             }
-            if (due.startsWith("java")) {
+            if (Calls.isRefusal(due)) {
                 refused[kind]++;
             } else {
                 answered[kind]++;
-                sets += kind == 0 ? 1 : 0;
+                sets += kind == Calls.SET ? 1 : 0;
             }
         }
         return true;
     }
 
-    private static String outcome(LongSupplier call) {
-        try {
-            return Long.toString(call.getAsLong());
-        } catch (RuntimeException thrown) {
-            return thrown.getClass().getName();
-        }
-    }
-
     /** Much is built at first, so that what is asked then tells something. */
     private int kindOfCall(int made) {
-        int[] building = {0, 0, 1, 2, 2, 2, 3, 3, 9, 9, 4, 5};
-        int[] trading = {12, 12, 12, 13, 15, 16, 17, 3, 4, 5, 20, 19};
+        int[] building = {
+            Calls.SET, Calls.SET, Calls.TERMS, Calls.SOURCE, Calls.SOURCE, Calls.SOURCE, Calls.VERSION,
+            Calls.VERSION, Calls.CONTRACT, Calls.CONTRACT, Calls.MISSING, Calls.REPORT};
+        int[] trading = {
+            Calls.READ, Calls.READ, Calls.READ, Calls.PREVIEW, Calls.OF_READER, Calls.BILL, Calls.PASS,
+            Calls.VERSION, Calls.MISSING, Calls.REPORT, Calls.MEAN_WORTH, Calls.QUOTE};
         int[] row = made < 60 ? building : trading;
         if (random.nextInt(3) == 0) {
-            return random.nextInt(KINDS);
+            return random.nextInt(Calls.KINDS);
         }
         return row[random.nextInt(row.length)];
     }
@@ -132,26 +125,29 @@ public final class ModelTest {
         int today = model.many(8);
         int first = random.nextBoolean() ? today : near(today, Math.min(359, today + 40));
         switch (kind) {
-            case 0: return new int[] {near(1, 6)};
-            case 1: return new int[] {set, aField(set), near(1, 99), near(0, 1000)};
-            case 2: return new int[] {set, aField(set), from, aField(from), near(1, 100)};
-            case 3: return new int[] {set, near(1, random.nextBoolean() ? 9999 : 3)};
-            case 4: return new int[] {set, aField(set), near(0, 1000)};
-            case 5: case 6: case 21: return new int[] {set, aVersion(set), aField(set), near(1, 100)};
-            case 7: return new int[] {set, near(0, 6)};
-            case 8: return new int[] {set, aVersion(set), aField(set), from, aVersion(from), aField(from)};
-            case 9: return new int[] {reader % 3, set, someFields(set), near(1, 15), first, near(first, 359)};
-            case 10: case 22: return new int[] {near(0, Math.max(0, model.many(3) - 1))};
-            case 11: return new int[] {reader, set, near(0, 3), near(0, 359)};
-            case 12: return readArguments(reader, set);
-            case 13: return new int[] {reader % 3, set, fewFields(set)};
-            case 14: return new int[] {near(0, Math.max(0, model.many(4) - 1)), near(0, 11)};
-            case 15: return new int[] {reader, near(0, 6)};
-            case 16: return new int[] {reader};
-            case 17: return new int[] {near(1, random.nextInt(4) == 0 ? 30 : 3)};
-            case 18: return new int[] {near(0, 8)};
-            case 19: return new int[] {reader, set, someFields(set), near(1, 9999)};
-            case 23: return new int[] {reader, set};
+            case Calls.SET: return new int[] {near(1, 6)};
+            case Calls.TERMS: return new int[] {set, aField(set), near(1, 99), near(0, 1000)};
+            case Calls.SOURCE: return new int[] {set, aField(set), from, aField(from), near(1, 100)};
+            case Calls.VERSION: return new int[] {set, near(1, random.nextBoolean() ? 9999 : 3)};
+            case Calls.MISSING: return new int[] {set, aField(set), near(0, 1000)};
+            case Calls.REPORT: case Calls.HARM: case Calls.CREDIT_BY:
+                return new int[] {set, aVersion(set), aField(set), near(1, 100)};
+            case Calls.OF_SET: return new int[] {set, near(0, 6)};
+            case Calls.IS_MADE_OF:
+                return new int[] {set, aVersion(set), aField(set), from, aVersion(from), aField(from)};
+            case Calls.CONTRACT:
+                return new int[] {reader % 3, set, someFields(set), near(1, 15), first, near(first, 359)};
+            case Calls.END: case Calls.NEEDED_BY: return new int[] {near(0, Math.max(0, model.many(3) - 1))};
+            case Calls.COVERED: return new int[] {reader, set, near(0, 3), near(0, 359)};
+            case Calls.READ: return readArguments(reader, set);
+            case Calls.PREVIEW: return new int[] {reader % 3, set, fewFields(set)};
+            case Calls.OF_READ: return new int[] {near(0, Math.max(0, model.many(4) - 1)), near(0, 11)};
+            case Calls.OF_READER: return new int[] {reader, near(0, 6)};
+            case Calls.BILL: return new int[] {reader};
+            case Calls.PASS: return new int[] {near(1, random.nextInt(4) == 0 ? 30 : 3)};
+            case Calls.MANY: return new int[] {near(0, 8)};
+            case Calls.QUOTE: return new int[] {reader, set, someFields(set), near(1, 9999)};
+            case Calls.PREVIEWS: return new int[] {reader, set};
             default: return new int[] {};
         }
     }
@@ -172,65 +168,5 @@ public final class ModelTest {
             }
         }
         return new int[] {reader, set, someFields(set), rows, near(0, 3)};
-    }
-
-    private long onDesk(int kind, int[] a) {
-        switch (kind) {
-            case 0: return desk.set(a[0]);
-            case 1: return desk.terms(a[0], a[1], a[2], a[3]);
-            case 2: return desk.source(a[0], a[1], a[2], a[3], a[4]);
-            case 3: return desk.version(a[0], a[1]);
-            case 4: return desk.missing(a[0], a[1], a[2]);
-            case 5: return desk.report(a[0], a[1], a[2], a[3]);
-            case 6: return desk.harm(a[0], a[1], a[2]);
-            case 7: return desk.ofSet(a[0], a[1]);
-            case 8: return desk.isMadeOf(a[0], a[1], a[2], a[3], a[4], a[5]) ? 1 : 0;
-            case 9: return desk.contract(a[0], a[1], a[2], a[3], a[4], a[5]);
-            case 10: return desk.end(a[0]);
-            case 11: return desk.covered(a[0], a[1], a[2], a[3]);
-            case 12: return desk.read(a[0], a[1], a[2], a[3], a[4]);
-            case 13: return desk.preview(a[0], a[1], a[2]);
-            case 14: return desk.ofRead(a[0], a[1]);
-            case 15: return desk.ofReader(a[0], a[1]);
-            case 16: return desk.bill(a[0]);
-            case 17: return desk.pass(a[0]);
-            case 18: return desk.many(a[0]);
-            case 19: return desk.quote(a[0], a[1], a[2], a[3]);
-            case 20: return Double.doubleToLongBits(desk.meanWorth());
-            case 21: return desk.creditBy(a[0], a[1], a[2], a[3]);
-            case 22: return desk.neededBy(a[0]);
-            case 23: return desk.previews(a[0], a[1]);
-            default: return desk.digest();
-        }
-    }
-
-    private long onModel(int kind, int[] a) {
-        switch (kind) {
-            case 0: return model.set(a[0]);
-            case 1: return model.terms(a[0], a[1], a[2], a[3]);
-            case 2: return model.source(a[0], a[1], a[2], a[3], a[4]);
-            case 3: return model.version(a[0], a[1]);
-            case 4: return model.missing(a[0], a[1], a[2]);
-            case 5: return model.report(a[0], a[1], a[2], a[3]);
-            case 6: return model.harm(a[0], a[1], a[2]);
-            case 7: return model.ofSet(a[0], a[1]);
-            case 8: return model.isMadeOf(a[0], a[1], a[2], a[3], a[4], a[5]) ? 1 : 0;
-            case 9: return model.contract(a[0], a[1], a[2], a[3], a[4], a[5]);
-            case 10: return model.end(a[0]);
-            case 11: return model.covered(a[0], a[1], a[2], a[3]);
-            case 12: return model.read(a[0], a[1], a[2], a[3], a[4]);
-            case 13: return model.preview(a[0], a[1], a[2]);
-            case 14: return model.ofRead(a[0], a[1]);
-            case 15: return model.ofReader(a[0], a[1]);
-            case 16: return model.bill(a[0]);
-            case 17: return model.pass(a[0]);
-            case 18: return model.many(a[0]);
-            case 19: return model.quote(a[0], a[1], a[2], a[3]);
-            case 20: return Double.doubleToLongBits(model.meanWorth());
-            case 21: return model.creditBy(a[0], a[1], a[2], a[3]);
-            case 22: return model.neededBy(a[0]);
-            case 23: return model.previews(a[0], a[1]);
-            default: return model.digest();
-        }
     }
 }
