@@ -52,6 +52,7 @@ public final class FaceTest {
         }
         theConstructor(type);
         theMethods(type);
+        theClassesInside(type);
         if (wrong != 0) {
             System.exit(1);
         }
@@ -81,6 +82,15 @@ public final class FaceTest {
         due("the methods: " + found, found.equals(FACE));
         for (String name : privateNames) {
             due("no private method bears the name " + name, !publicNames.contains(name));
+        }
+    }
+
+    private static void theClassesInside(Class<?> type) {
+        for (Class<?> inside : type.getDeclaredClasses()) {
+            int modifiers = inside.getModifiers();
+            due("static: " + inside, Modifier.isStatic(modifiers));
+            due("private or package-visible: " + inside,
+                    !Modifier.isPublic(modifiers) && !Modifier.isProtected(modifiers));
         }
     }
 
